@@ -94,15 +94,26 @@ public final class OneThingTest {
         due.is("such(0, 0)", x.such(0, 0), GateWatch.BAD);
         due.is("such(0, 9)", x.such(0, 9), GateWatch.BAD);
         due.is("such(1, 9)", x.such(1, 9), GateWatch.NONE);
-        GateWatch y = with("ill 748 d<4;heal 791 d<3;well 55;bad 196;look 24");
-        y.days(2);
-        due.is("number(0, 3)", y.number(0, 3), 0);
-        due.is("such(0, 3)", y.such(0, 3), 0);
-        int better = 0;
-        for (int w = 1; w <= 200; w++) {
-            better += y.best(0, w, 3, 2) > y.best(0, w, 3, 1) ? 1 : 0;
+        // Found by trying many: worse again at many wages, at the next one alone, at 200 alone, and alike again.
+        such("ill 748 d<4;heal 791 d<3;well 55;bad 196;look 24", 2, 3, 0);
+        such("ill 626 d<4;heal 669 d<3;well 70;bad 76;look 7", 2, 3, 0);
+        such("ill 939 d<3;heal 614 d=1;well 818;bad 548;look 20;mend 185", 3, 4, 0);
+        such("ill 989 d<5;heal 176 d<2;well 183;bad 78;look 18", 1, 3, 1);
+    }
+
+    private static void such(String sort, int days, int n, int want) {
+        GateWatch x = with(sort);
+        x.days(days);
+        int least = -5;
+        int so = 1;
+        for (int w = 0; w <= 200; w++) {
+            boolean enough = x.best(0, w, n, 1) >= x.best(0, w, n, 2);
+            so = least >= 0 && !enough ? 0 : so;
+            least = least < 0 && enough ? w : least;
         }
-        due.is("a greater wage at which LOOKED is more", better > 0 ? 1 : 0, 1);
+        due.is("number(0, " + n + ") of " + sort, x.number(0, n), least);
+        due.is("such(0, " + n + ") of " + sort, x.such(0, n), want);
+        due.is("by best(..) at each wage", so, want);
     }
 
     public static void main(String[] args) {

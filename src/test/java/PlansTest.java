@@ -233,6 +233,9 @@ public final class PlansTest {
         due.is("judged(0, 2)", x.judged(0, 2), -5);
         due.is("judged(0, 3)", x.judged(0, 3), 2);
         due.is("judged(0, 10)", x.judged(0, 10), 2);
+        due.is("mean behind it", x.mean(0, 1), 0);
+        due.is("judged(0, 2) again", x.judged(0, 2), -5);
+        due.is("judged(0, 3) again", x.judged(0, 3), 2);
         x.row(0, 2);
         due.is("one after the other", x.judged(0, 10), -5);
         due.is("judged(2, 0)", x.judged(2, 0), GateWatch.NONE);
@@ -253,7 +256,10 @@ public final class PlansTest {
         less.plan(6, 0);
         less.row(0, 1);
         less.days(1);
+        String state = Due.state(less);
         due.is("499000 shows ILL", less.judged(0, 9), -5);
+        due.is("499000 shows ILL again", less.judged(0, 9), -5);
+        due.is("nothing changed", Due.state(less).equals(state) ? 1 : 0, 1);
         GateWatch mended = with("ill 501 k<100;mend 1", 2);
         mended.plan(6, 0);
         mended.row(0, 1);
