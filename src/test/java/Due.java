@@ -1,5 +1,8 @@
 /** Counts answers that are not the ones that are due, and ends the test by them. */
 final class Due {
+    /** A sort that stays as it is till a LOOK mends it. */
+    static final String STEADY = "well 20;bad 30;look 5;mend 7";
+
     private int checks = 0;
     private int wrong = 0;
     private String promise = "";
@@ -42,6 +45,16 @@ final class Due {
     static int sort(GateWatch x, String text) {
         feed(x, text);
         return x.sort();
+    }
+
+    /** An object with one sort, and things of it at the places 0, 10, 20 and so on. */
+    static GateWatch with(String sort, int things) {
+        GateWatch x = new GateWatch();
+        sort(x, sort);
+        for (int t = 0; t < things; t++) {
+            x.thing(0, 10 * t);
+        }
+        return x;
     }
 
     /** What can be asked of an object with no change but THE TRACE's: to show that a refusal changed nothing. */

@@ -2,16 +2,9 @@
 public final class OneThingTest {
     private static final Due due = new Due();
 
-    private static GateWatch with(String sort) {
-        GateWatch x = new GateWatch();
-        Due.sort(x, sort);
-        x.thing(0, 0);
-        return x;
-    }
-
     private static void best() {
         due.promise(9);
-        GateWatch x = with("ill 100 k<100;well 20;bad 30;look 5;mend 7");
+        GateWatch x = Due.with("ill 100 k<100;well 20;bad 30;look 5;mend 7", 1);
         due.is("best(0, 0, 1, 0)", x.best(0, 0, 1, 0), 20000);
         due.is("best(0, 0, 1, 1)", x.best(0, 0, 1, 1), 20000);
         due.is("best(0, 0, 1, 2)", x.best(0, 0, 1, 2), 15000);
@@ -30,7 +23,7 @@ public final class OneThingTest {
     }
 
     private static void unmended() {
-        GateWatch x = with("heal 250 d=0;well 10;bad 20;look 1");
+        GateWatch x = Due.with("heal 250 d=0;well 10;bad 20;look 1", 1);
         due.is("seen", x.seen(0, false), 1000000);
         // -20000, then 250000: 2500 less 15000; a LOOK behind which it is seen ILL again.
         due.is("best(0, 0, 2, 1)", x.best(0, 0, 2, 1), -32500);
@@ -40,12 +33,12 @@ public final class OneThingTest {
         due.is("best(0, 2, 1, 0)", x.best(0, 2, 1, 0), 2000 - 12500);
         // Behind WELL 10000 and 2000; behind ILL 250000: -12500 and 2000.
         due.is("best(0, 2, 2, 2)", x.best(0, 2, 2, 2), -12500 - 1000 + 3000 - 7875);
-        GateWatch y = with("ill 1 d=0;bad 1;look 0;mend 1");
+        GateWatch y = Due.with("ill 1 d=0;bad 1;look 0;mend 1", 1);
         y.days(1);
         // 999000: 0 less 1; mending -1000 x 1000 / 1000000 is -1.
         due.is("KNOWN", y.of(0, 2), 999000);
         due.is("best(0, 0, 1, 2)", y.best(0, 0, 1, 2), -2);
-        GateWatch z = with("ill 1 d<9;mend 1");
+        GateWatch z = Due.with("ill 1 d<9;mend 1", 1);
         z.days(2);
         // 998001, so -1999000000 / 1000000 is cut toward 0.
         due.is("KNOWN", z.of(0, 2), 998001);
@@ -53,7 +46,7 @@ public final class OneThingTest {
     }
 
     private static void refused() {
-        GateWatch x = with("well 1");
+        GateWatch x = Due.with("well 1", 1);
         String state = Due.state(x);
         due.is("best(1, 0, 1, 0)", x.best(1, 0, 1, 0), GateWatch.NO);
         due.is("best(-1, 0, 1, 0)", x.best(-1, 0, 1, 0), GateWatch.NO);
@@ -70,7 +63,7 @@ public final class OneThingTest {
     /** Seen ILL, and mended by a LOOK for good: each DAY more makes the LOOK worth 50 more. */
     private static void number() {
         due.promise(10);
-        GateWatch x = with("well 20;bad 30;look 5;mend 7");
+        GateWatch x = Due.with("well 20;bad 30;look 5;mend 7", 1);
         due.is("number(0, 3)", x.number(0, 3), 0);
         x.seen(0, false);
         int[] numbers = {0, 38, 88, 138, 188, -5, -5, -5};
@@ -86,7 +79,7 @@ public final class OneThingTest {
 
     private static void such() {
         due.promise(11);
-        GateWatch x = with("well 20;bad 30;look 5;mend 7");
+        GateWatch x = Due.with("well 20;bad 30;look 5;mend 7", 1);
         x.seen(0, false);
         due.is("such(0, 1)", x.such(0, 1), 1);
         due.is("such(0, 5)", x.such(0, 5), 1);
@@ -102,7 +95,7 @@ public final class OneThingTest {
     }
 
     private static void such(String sort, int days, int n, int want) {
-        GateWatch x = with(sort);
+        GateWatch x = Due.with(sort, 1);
         x.days(days);
         int least = -5;
         int so = 1;

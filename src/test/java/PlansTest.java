@@ -1,28 +1,17 @@
 /** Promises 12 to 20: plans and what they bring. The numbers were worked out by hand. */
 public final class PlansTest {
     private static final Due due = new Due();
-    /** Stays as it is till a LOOK mends it. */
-    private static final String STEADY = "well 20;bad 30;look 5;mend 7";
-
-    private static GateWatch with(String sort, int things) {
-        GateWatch x = new GateWatch();
-        Due.sort(x, sort);
-        for (int t = 0; t < things; t++) {
-            x.thing(0, 10 * t);
-        }
-        return x;
-    }
 
     /** One THING that is WELL and one that is ILL. */
     private static GateWatch wellAndIll() {
-        GateWatch x = with(STEADY, 2);
+        GateWatch x = Due.with(Due.STEADY, 2);
         x.seen(1, false);
         return x;
     }
 
     private static void looks() {
         due.promise(12);
-        GateWatch x = with(STEADY, 2);
+        GateWatch x = Due.with(Due.STEADY, 2);
         x.plan(0, 0);
         due.is("whom(0)", x.whom(0), 1);
         due.is("looks(3)", x.looks(3), 1);
@@ -56,7 +45,7 @@ public final class PlansTest {
 
     private static void row() {
         due.promise(14);
-        GateWatch x = with(STEADY, 3);
+        GateWatch x = Due.with(Due.STEADY, 3);
         x.plan(6, 0);
         x.plan(5, 0);
         due.is("row(2, 8)", x.row(2, 8), GateWatch.NONE);
@@ -78,7 +67,7 @@ public final class PlansTest {
 
     private static void whom() {
         due.promise(15);
-        GateWatch x = with(STEADY, 3);
+        GateWatch x = Due.with(Due.STEADY, 3);
         x.plan(0, 5);
         x.plan(1, 3);
         x.plan(1, 1);
@@ -134,7 +123,7 @@ public final class PlansTest {
 
     private static void mean() {
         due.promise(16);
-        GateWatch x = with("ill 500 k<100;well 20;bad 30;look 5;mend 7", 1);
+        GateWatch x = Due.with("ill 500 k<100;well 20;bad 30;look 5;mend 7", 1);
         x.plan(0, 0);
         x.plan(6, 0);
         due.is("mean(0, 1)", x.mean(0, 1), 15000);
@@ -177,7 +166,7 @@ public final class PlansTest {
         due.is("all(1, 2)", x.all(1, 2), GateWatch.NO);
         due.is("all(1, -1)", x.all(1, -1), GateWatch.NO);
         due.is("of no THINGS", new GateWatch().all(1, 0), GateWatch.NO);
-        GateWatch y = with(STEADY, 3);
+        GateWatch y = Due.with(Due.STEADY, 3);
         due.is("of several the least", y.all(2, 1), 1);
         y.looks(2);
         due.is("of several the least", y.all(2, 1), 3);
@@ -212,7 +201,7 @@ public final class PlansTest {
         due.is("bound(1), both looked at", x.bound(1), -10000);
         x.looks(3);
         due.is("bound(1), more than there are", x.bound(1), -10000);
-        GateWatch y = with(STEADY, 3);
+        GateWatch y = Due.with(Due.STEADY, 3);
         for (int t = 0; t < 3; t++) {
             y.seen(t, false);
         }
@@ -225,7 +214,7 @@ public final class PlansTest {
 
     private static void judged() {
         due.promise(20);
-        GateWatch x = with("ill 100 k<100", 2);
+        GateWatch x = Due.with("ill 100 k<100", 2);
         x.plan(6, 0);
         x.plan(0, 0);
         due.is("no ROW", x.judged(0, 1), GateWatch.STATE);
@@ -247,12 +236,12 @@ public final class PlansTest {
     }
 
     private static void likely() {
-        GateWatch half = with("ill 500 k<100", 2);
+        GateWatch half = Due.with("ill 500 k<100", 2);
         half.plan(6, 0);
         half.row(0, 1);
         half.days(1);
         due.is("500000 shows WELL", half.judged(0, 9), 1);
-        GateWatch less = with("ill 501 k<100", 2);
+        GateWatch less = Due.with("ill 501 k<100", 2);
         less.plan(6, 0);
         less.row(0, 1);
         less.days(1);
@@ -260,7 +249,7 @@ public final class PlansTest {
         due.is("499000 shows ILL", less.judged(0, 9), -5);
         due.is("499000 shows ILL again", less.judged(0, 9), -5);
         due.is("nothing changed", Due.state(less).equals(state) ? 1 : 0, 1);
-        GateWatch mended = with("ill 501 k<100;mend 1", 2);
+        GateWatch mended = Due.with("ill 501 k<100;mend 1", 2);
         mended.plan(6, 0);
         mended.row(0, 1);
         mended.days(1);

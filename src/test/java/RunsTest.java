@@ -1,38 +1,28 @@
 /** Promises 21 to 24: runs, rounds, ways, edges. The numbers were worked out by hand. */
 public final class RunsTest {
     private static final Due due = new Due();
-    private static final String STEADY = "well 20;bad 30;look 5;mend 7";
-
-    private static GateWatch with(String sort, int things) {
-        GateWatch x = new GateWatch();
-        Due.sort(x, sort);
-        for (int t = 0; t < things; t++) {
-            x.thing(0, 10 * t);
-        }
-        return x;
-    }
 
     /** DRAWS of seed 0 on DAY 0: 91 of thing 0, 140 of thing 1; on DAY 1: 210 and 259. */
     private static void run() {
         due.promise(21);
-        GateWatch turns = with("ill 92 k<100;well 20;bad 30;look 5", 1);
+        GateWatch turns = Due.with("ill 92 k<100;well 20;bad 30;look 5", 1);
         turns.plan(6, 0);
         due.is("run(0, 2, 0)", turns.run(0, 2, 0), 20000 - 30000);
         due.is("NOW", turns.count(3), 2);
         // 908000 x 908 / 1000
         due.is("KNOWN", turns.of(0, 2), 824464);
         due.is("d", turns.of(0, 3), 2);
-        GateWatch stays = with("ill 91 k<100;well 20;bad 30;look 5", 1);
+        GateWatch stays = Due.with("ill 91 k<100;well 20;bad 30;look 5", 1);
         stays.plan(6, 0);
         due.is("91 is not below 91", stays.run(0, 2, 0), 40000);
-        GateWatch second = with("ill 140 k<100;ill 1 k=10;well 20;bad 30", 2);
+        GateWatch second = Due.with("ill 140 k<100;ill 1 k=10;well 20;bad 30", 2);
         second.plan(6, 0);
         due.is("both turn", second.run(0, 2, 0), 40000 - 60000);
-        GateWatch seeds = with("ill 308 k=10;ill 309 k=20;bad 30", 3);
+        GateWatch seeds = Due.with("ill 308 k=10;ill 309 k=20;bad 30", 3);
         seeds.plan(6, 0);
         // Seed 1: 308 of thing 1, 357 of thing 2: neither turns.
         due.is("seed 1", seeds.run(0, 2, 1), 0);
-        GateWatch heals = with("heal 210 k=0;heal 260 k=10;well 20;bad 30", 2);
+        GateWatch heals = Due.with("heal 210 k=0;heal 260 k=10;well 20;bad 30", 2);
         heals.plan(6, 0);
         heals.seen(0, false);
         heals.seen(1, false);
@@ -43,7 +33,7 @@ public final class RunsTest {
     }
 
     private static void looked() {
-        GateWatch x = with(STEADY, 1);
+        GateWatch x = Due.with(Due.STEADY, 1);
         x.plan(0, 0);
         x.seen(0, false);
         due.is("mended, but bad ahead of it", x.run(0, 1, 0), -30000 - 5000 - 7000);
@@ -53,7 +43,7 @@ public final class RunsTest {
         due.is("showed WELL", x.of(0, 4), 0);
         due.is("WELL from then on", x.run(0, 3, 0), 45000);
         due.is("showed WELL", x.of(0, 4), 3);
-        GateWatch y = with("ill 999 d=0;ill 1 d=0;well 20;bad 30;look 5", 1);
+        GateWatch y = Due.with("ill 999 d=0;ill 1 d=0;well 20;bad 30;look 5", 1);
         y.plan(0, 0);
         y.plan(6, 0);
         y.days(1);
@@ -62,7 +52,7 @@ public final class RunsTest {
         due.is("looked at: d 0", y.run(0, 2, 0), 15000 - 35000);
         due.is("KNOWN", y.of(0, 2), 0);
         due.is("counts", y.of(0, 4) * 10 + y.of(0, 5), 11);
-        GateWatch z = with("ill 999 d=0;ill 1 d=0;heal 500 d>0;mend 1", 1);
+        GateWatch z = Due.with("ill 999 d=0;ill 1 d=0;heal 500 d>0;mend 1", 1);
         z.plan(0, 0);
         z.seen(0, false);
         due.is("mended, then turned by d 0", z.run(0, 2, 0), -2000);
@@ -70,7 +60,7 @@ public final class RunsTest {
     }
 
     private static void refused() {
-        GateWatch x = with(STEADY, 1);
+        GateWatch x = Due.with(Due.STEADY, 1);
         x.plan(0, 0);
         x.days(1);
         String state = Due.state(x);
@@ -93,7 +83,7 @@ public final class RunsTest {
 
     private static void round() {
         due.promise(22);
-        GateWatch x = with(STEADY, 2);
+        GateWatch x = Due.with(Due.STEADY, 2);
         x.seen(1, false);
         x.looks(2);
         // Thing 1 is mended on the first DAY: -22, 35, 35; a row of thing 0 alone: -15 thrice.
@@ -116,12 +106,12 @@ public final class RunsTest {
         due.is("round(2, 0)", x.round(2, 0), 0);
         due.is("round(2, 1)", x.round(2, 1), 1);
         due.is("round(1, -1)", x.round(1, -1), -72000 - 15000 - 15000);
-        due.is("one THING, three of a row", with(STEADY, 1).round(3, 2), 0);
+        due.is("one THING, three of a row", Due.with(Due.STEADY, 1).round(3, 2), 0);
         roundFromNow();
     }
 
     private static void roundFromNow() {
-        GateWatch x = with(STEADY, 2);
+        GateWatch x = Due.with(Due.STEADY, 2);
         x.days(1);
         x.seen(1, false);
         due.is("the first of the row NOW", x.round(2, 0), 1);
@@ -131,7 +121,7 @@ public final class RunsTest {
     private static void tour() {
         due.promise(23);
         GateWatch x = new GateWatch();
-        Due.sort(x, STEADY);
+        Due.sort(x, Due.STEADY);
         x.thing(0, 10);
         x.thing(0, 20);
         x.thing(0, 99);
@@ -163,7 +153,7 @@ public final class RunsTest {
 
     /** Two THINGS seen ILL whose NUMBER by 2 is 38 less a twentieth of ill, rounded up. */
     private static GateWatch ills(int ill) {
-        GateWatch x = with("ill " + ill + " k<100;" + STEADY, 2);
+        GateWatch x = Due.with("ill " + ill + " k<100;" + Due.STEADY, 2);
         x.seen(0, false);
         x.seen(1, false);
         return x;
@@ -187,7 +177,7 @@ public final class RunsTest {
         due.is("edge(-1, 1)", x.edge(-1, 1), GateWatch.NONE);
         due.is("edge(0, 0)", x.edge(0, 0), GateWatch.BAD);
         due.is("edge(0, 5)", x.edge(0, 5), GateWatch.BAD);
-        GateWatch one = with(STEADY, 1);
+        GateWatch one = Due.with(Due.STEADY, 1);
         due.is("one alone, n 5", one.edge(0, 5), GateWatch.BAD);
         due.is("one alone", one.edge(0, 1), GateWatch.STATE);
         slowEdge();
@@ -199,13 +189,13 @@ public final class RunsTest {
         int[] ills = {120, 121, 149};
         int[] changes = {30, 29, 1};
         for (int i = 0; i < ills.length; i++) {
-            GateWatch x = with("ill " + ills[i] + " k<100" + slow, 2);
+            GateWatch x = Due.with("ill " + ills[i] + " k<100" + slow, 2);
             x.seen(0, false);
             x.seen(1, false);
             due.is("number(0, 2)", x.number(0, 2), 11);
             due.is("edge(0, 2) by ill " + ills[i], x.edge(0, 2), changes[i]);
         }
-        GateWatch x = with("ill 119 k<100" + slow, 2);
+        GateWatch x = Due.with("ill 119 k<100" + slow, 2);
         x.seen(0, false);
         x.seen(1, false);
         due.is("none up to 30", x.edge(0, 2), 0);
