@@ -328,7 +328,10 @@ public final class GateWatch {
         outlook.weighAll(n);
         int first = outlook.worthiest();
         for (int change = 1; change <= MOST_CHANGE; change++) {
-            if (outlook.worthiestWith(thing, n, -change) != first || outlook.worthiestWith(thing, n, change) != first) {
+            if (outlook.worthiestWith(thing, n, -change) != first) {
+                return -change;
+            }
+            if (outlook.worthiestWith(thing, n, change) != first) {
                 return change;
             }
         }

@@ -742,7 +742,7 @@ final class PlainWatch {
                 changed.change = way * change;
                 numbers[thing] = counted(changed, n);
                 if (first(numbers) != first) {
-                    return change;
+                    return way * change;
                 }
             }
         }

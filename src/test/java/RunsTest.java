@@ -165,11 +165,11 @@ public final class RunsTest {
         due.is("number(0, 2)", x.number(0, 2), 33);
         // 120 makes it 32, and thing 1 has the greatest; 99 makes it 34.
         due.is("more of thing 0", x.edge(0, 2), 10);
-        due.is("less of thing 1", x.edge(1, 2), 11);
+        due.is("less of thing 1", x.edge(1, 2), -11);
         due.is("KNOWN is as it was", x.of(0, 2), 0);
         due.is("number(0, 2)", x.number(0, 2), 33);
         due.is("number(1, 2)", x.number(1, 2), 33);
-        due.is("less of thing 1 at once", ills(100).edge(1, 2), 1);
+        due.is("less of thing 1 at once", ills(100).edge(1, 2), -1);
         due.is("20 more of thing 0", ills(0).edge(0, 2), 20);
         due.is("none below 0", ills(0).edge(1, 2), 0);
         due.is("by 1 nothing counts", x.edge(0, 1), 0);
@@ -181,6 +181,16 @@ public final class RunsTest {
         due.is("one alone, n 5", one.edge(0, 5), GateWatch.BAD);
         due.is("one alone", one.edge(0, 1), GateWatch.STATE);
         slowEdge();
+        lessFirst();
+    }
+
+    /** By the cuts alone, the NUMBER is 1 with ill 48 and 62, and 0 with all others near 55. */
+    private static void lessFirst() {
+        GateWatch x = Due.with("ill 55 k<100;well 4;bad 17;look 0", 2);
+        x.days(1);
+        due.is("number(1, 3)", x.number(1, 3), 0);
+        due.is("7 less ahead of 7 more", x.edge(1, 3), -7);
+        due.is("the first stays the first", x.edge(0, 3), 0);
     }
 
     /** The NUMBER is 13 less a fiftieth of ill here, so up to 50 may be needed. */
