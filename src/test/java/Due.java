@@ -11,6 +11,11 @@ final class Due {
         promise = "promise " + number + ": ";
     }
 
+    /** What follows is of this sentence of the document: a term or a promise, and its words. */
+    void sentence(String where, String words) {
+        promise = where + ", \"" + words + "\": ";
+    }
+
     void is(String call, long got, long want) {
         checks++;
         if (got != want) {

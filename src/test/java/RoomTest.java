@@ -1,7 +1,7 @@
 import java.lang.management.ManagementFactory;
 
 /**
- * The room that the calls of a run take: the dear ones make nothing, so 512 of them take no more than one. Bytes
+ * The room that the calls of a run take: the dear ones make nothing, so 360 of them take no more than one. Bytes
  * are counted, which no object or array goes without.
  */
 public final class RoomTest {
@@ -56,21 +56,21 @@ public final class RoomTest {
             sum += call(x, i);
         }
         long before = bytes();
-        for (int i = 0; i < 480; i++) {
+        for (int i = 0; i < 360; i++) {
             sum += call(x, i);
         }
         long calls = bytes() - before;
-        due.is("480 dear calls (" + sum + ") took " + calls + " bytes: a few", calls < 20000 ? 1 : 0, 1);
+        due.is("360 dear calls (" + sum + ") took " + calls + " bytes: a few", calls < 20000 ? 1 : 0, 1);
         before = bytes();
         GateWatch y = new GateWatch();
         long made = bytes() - before;
         due.is("a new object (" + y.count(4) + ") took " + made + " bytes", made < 40000 ? 1 : 0, 1);
         before = bytes();
-        for (int i = 0; i < 512; i++) {
+        for (int i = 0; i < 500; i++) {
             y.sort();
         }
         long sorts = bytes() - before;
-        due.is("512 sort() took " + sorts + " bytes", sorts < 1000000 ? 1 : 0, 1);
+        due.is("500 sort() took " + sorts + " bytes", sorts < 1000000 ? 1 : 0, 1);
         due.end();
     }
 }
