@@ -66,7 +66,23 @@ public final class ActBoundaryTest {
         refusedFull("row(11, 255)", x -> x.row(11, 255), GateWatch.FULL);
         refusedFull("days(1)", x -> x.days(1), GateWatch.BAD);
         refusedFull("run(0, 1, 0)", x -> x.run(0, 1, 0), GateWatch.NO);
+        refusedFull("told(6, 0, 0, 0)", x -> x.told(6, 0, 0, 0), GateWatch.NONE);
+        refusedFull("thing(6, 0)", x -> x.thing(6, 0), GateWatch.NONE);
+        refusedFull("of(8, 0)", x -> x.of(8, 0), GateWatch.NONE);
+        refusedFull("seen(8, true)", x -> x.seen(8, true), GateWatch.NONE);
+        refusedFull("best(8, 0, 1, 0)", x -> x.best(8, 0, 1, 0), GateWatch.NO);
+        refusedFull("number(8, 1)", x -> x.number(8, 1), GateWatch.NONE);
+        refusedFull("such(8, 1)", x -> x.such(8, 1), GateWatch.NONE);
+        refusedFull("row(12, 0)", x -> x.row(12, 0), GateWatch.NONE);
+        refusedFull("row(11, 256)", x -> x.row(11, 256), GateWatch.BAD);
+        refusedFull("whom(12)", x -> x.whom(12), GateWatch.NONE);
+        refusedFull("mean(12, 1)", x -> x.mean(12, 1), GateWatch.NO);
+        refusedFull("loses(12, 1)", x -> x.loses(12, 1), GateWatch.NO);
+        refusedFull("judged(12, 1)", x -> x.judged(12, 1), GateWatch.NONE);
+        refusedFull("edge(8, 1)", x -> x.edge(8, 1), GateWatch.NONE);
+        refusedFull("as(12, 0)", x -> x.as(12, 0), GateWatch.NONE);
         GateWatch x = full();
+        due.is("act(12, 0, 7)", x.act(12, 0, 7), 0);
         due.is("bound(8), no LOOK is worth it", x.bound(8), 8 * 8 * 20000);
         due.is("all(2, 1)", x.all(2, 1), 7);
         due.is("mean(11, 3)", x.mean(11, 3), 3 * (160000 - 15000));
@@ -156,12 +172,27 @@ public final class ActBoundaryTest {
         GateWatch x = ofAllKinds();
         int[][][] bodies = {{{1}, {2, 1}}, {{11, 1}, {2, 11, 1}}, {{1}, {21, 2, 1}}, {{1}, {2, 1}}, {{1}, {21, 2, 1}},
             {{1}, {51, 2, 1}}, {{61, 1}, {2, 61, 1}}};
+        int[][] answers = {{8, 8 - 10}, {23, 23 - 11}, {10, 10 - 12 ^ 5}, {11, 11 - 13}, {12, 12 - 14 ^ 5}, {13, 13 - 15 ^ 6},
+            {30, 30 - 16}};
+        int[] ends = {-4, 24, (10 - 12 ^ 5) * 2, 4, (13 - 14 ^ 5) * 2 + 7, -((13 - 15 ^ 6) * 2), 28};
         for (int kind = 0; kind <= 6; kind++) {
+            due.is("ends of KIND " + kind, x.act(1 + kind, 2, 7), ends[kind]);
             for (int act = 0; act <= 1; act++) {
-                x.act(1 + kind, act, 7);
+                due.is("act " + act + " of KIND " + kind, x.act(1 + kind, act, 7), answers[kind][act]);
                 trace(x, "act " + act + " of KIND " + kind, bodies[kind][act]);
             }
         }
+    }
+
+    private static void fromTheLeft() {
+        due.sentence("term 3", "super.means(..): so from the KIND above the body's on; what stands in a body is done from the left on");
+        GateWatch x = ofAllKinds();
+        // super.ends first, whose rows are TURN's again; then means(2), for which DRAWN and TURN have no body.
+        due.is("ends of DRAWN", x.act(5, 2, 0), (0 + 1 + 5 - 14 ^ 5) * 2 + 2 + 5);
+        trace(x, "ends of DRAWN", 41, 3, 21, 2, 1, 1);
+        // NEAR, the KIND above FAR's, has no rows: PLAN's.
+        due.is("rows of FAR", x.act(6, 1, 0), 0 + 6 - 15 ^ 6);
+        trace(x, "rows of FAR", 51, 2, 1);
     }
 
     private static void noSuchAct() {
@@ -285,6 +316,67 @@ public final class ActBoundaryTest {
         due.is("the ROW is as it was", x.row(6, 0), 3);
     }
 
+    /** What can't be asked for: THE TAPE's bytes, who is WELL; and COUNTS. */
+    private static void imageOfUnseen() {
+        due.sentence("term 4", "THE IMAGE: all that there is");
+        GateWatch x = Due.with("well 20;bad 30", 3);
+        x.plan(0, 0);
+        x.plan(6, 0);
+        x.seen(1, false);
+        x.run(0, 2, 0);
+        x.looks(2);
+        x.run(0, 3, 0);
+        Due.feed(x, "well 12");
+        x.image();
+        x.seen(0, false);
+        x.seen(1, true);
+        x.seen(2, false);
+        x.run(0, 4, 0);
+        x.sort();
+        Due.feed(x, "look 9;bad 8");
+        x.undo();
+        due.is("two are WELL, one ILL", x.run(1, 1, 0), 40000 - 30000);
+        due.is("of(0, 4)", x.of(0, 4), 5);
+        due.is("of(0, 5)", x.of(0, 5), 0);
+        due.is("of(1, 4)", x.of(1, 4), 0);
+        due.is("of(1, 5)", x.of(1, 5), 3);
+        due.is("sort()", x.sort(), 1);
+        due.is("THE TAPE's bytes", x.told(1, 0, 0, 2), 12);
+        x.undo();
+        due.is("THE IMAGE has them still", x.sort() + x.told(1, 0, 0, 2), 13);
+        due.is("who is looked at", x.run(0, 1, 0), 40000 - 30000);
+        due.is("shown", x.of(0, 4) * 10 + x.of(1, 5), 64);
+    }
+
+    private static void laterIsGone() {
+        due.sentence("promise 29", "All is as THE IMAGE");
+        GateWatch x = new GateWatch();
+        x.image();
+        Due.sort(x, "well 1");
+        x.thing(0, 0);
+        x.thing(0, 0);
+        x.plan(6, 7);
+        x.row(0, 1);
+        x.undo();
+        due.is("no such SORT: told", x.told(0, 0, 0, 0), GateWatch.NONE);
+        due.is("no such SORT: thing", x.thing(0, 0), GateWatch.NONE);
+        due.is("no such THING: of", x.of(0, 0), GateWatch.NONE);
+        due.is("no such THING: seen", x.seen(0, true), GateWatch.NONE);
+        due.is("no such THING: best", x.best(0, 0, 1, 0), GateWatch.NO);
+        due.is("no such THING: number", x.number(0, 1), GateWatch.NONE);
+        due.is("no such THING: edge", x.edge(0, 1), GateWatch.NONE);
+        due.is("no such PLAN: row", x.row(0, 0), GateWatch.NONE);
+        due.is("no such PLAN: whom", x.whom(0), GateWatch.NONE);
+        due.is("no such PLAN: mean", x.mean(0, 1), GateWatch.NO);
+        due.is("no such PLAN: judged", x.judged(0, 1), GateWatch.NONE);
+        due.is("no such PLAN: run", x.run(0, 1, 0), GateWatch.NO);
+        due.is("no such PLAN: act", x.act(0, 0, 7), 0);
+        due.is("no such PLAN: as", x.as(0, 0), GateWatch.NONE);
+        due.is("no THINGS: bound", x.bound(1), 0);
+        due.is("no THINGS: all", x.all(1, 0), GateWatch.NO);
+        due.is("no THINGS: round", x.round(1, 0), GateWatch.NO);
+    }
+
     private static void newerImage() {
         due.sentence("promise 29", "All is as THE IMAGE: NOW");
         GateWatch x = Due.with("well 1", 1);
@@ -345,12 +437,15 @@ public final class ActBoundaryTest {
         wraps();
         mostBodies();
         nextAbove();
+        fromTheLeft();
         noSuchAct();
         traceEnds();
         as();
         noImage();
         imageOfNothing();
         imageStays();
+        imageOfUnseen();
+        laterIsGone();
         newerImage();
         count();
         due.end();

@@ -160,8 +160,8 @@ public final class PlanBoundaryTest {
     }
 
     private static void turn() {
-        due.sentence("term 3", "TURN: one after the other by numbers (the first behind the last), beginning at the DAY "
-            + "times LOOKS, and v, together, modulo how many there are");
+        due.sentence("term 3", "TURN: THINGS one after the other by numbers (the first behind the last), beginning at the "
+            + "DAY times LOOKS, and v, together, modulo how many there are");
         int[][] asked = {{1, 0, 1, 2, 4, 8, 16, 1, 2}, {1, 4, 16, 1, 2, 4, 8, 16, 1}, {1, 99, 16, 1, 2, 4, 8, 16, 1},
             {2, 0, 3, 12, 17, 6, 24, 3, 12}, {3, 3, 25, 14, 19, 28, 7, 25, 14}, {3, 2, 28, 7, 25, 14, 19, 28, 7}};
         for (int[] a : asked) {
@@ -177,7 +177,8 @@ public final class PlanBoundaryTest {
     }
 
     private static void near() {
-        due.sentence("term 3", "NEAR: (1000000 less KNOWN) the greatest");
+        due.sentence("term 3", "NEAR: those of which a LOOK would best serve the DAY behind: (1000000 less KNOWN) the "
+            + "greatest; of like ones the least");
         GateWatch x = Due.with("ill 500 k=0;ill 501 k=10;ill 499 k=20;ill 501 k=30", 4);
         x.plan(NEAR, 50);
         due.is("all WELL", x.whom(0), 1);
@@ -291,7 +292,8 @@ public final class PlanBoundaryTest {
     }
 
     private static void bothGoneOn() {
-        due.sentence("term 3", "behind each LOOK both ways that it can show are gone on with to the end, and it counts the mean");
+        due.sentence("term 3", "behind each LOOK (of THINGS by numbers, one after the other) both ways that it can show are "
+            + "gone on with to the end, and it counts the mean");
         GateWatch x = Due.with("ill 500 d=0;well 10;bad 20;look 1;mend 4", 2);
         x.plan(NEAR, 0);
         x.days(1);
@@ -342,6 +344,41 @@ public final class PlanBoundaryTest {
         due.is("TURN, 3 DAYS", turn.mean(0, 3), 3 * 10000 - 15000 - 7000);
     }
 
+    /** Who is looked at shows in what it costs: 1, 10 or 100. */
+    private static GateWatch costs(String rest) {
+        GateWatch x = new GateWatch();
+        String[] looks = {"look 1", "look 10", "look 100"};
+        for (int t = 0; t < 3; t++) {
+            Due.sort(x, looks[t] + rest);
+            x.thing(t, 0);
+        }
+        x.days(1);
+        x.seen(0, true);
+        return x;
+    }
+
+    private static void onThatDay() {
+        due.sentence("term 3", "WHOM is by KNOWN and d as they are on that DAY");
+        GateWatch far = costs("");
+        far.plan(FAR, 0);
+        int[] costs = {10000, 110000, 111000};
+        GateWatch near = costs(";ill 100 k<100;mend 1");
+        near.plan(NEAR, 0);
+        // Mending: 1000 times 100000, then 190000 twice, by 1000000.
+        int[] mends = {100, 290, 480};
+        for (int n = 1; n <= 3; n++) {
+            due.is("FAR: 1, 2, 0", far.mean(0, n), -costs[n - 1]);
+            due.is("NEAR: 1, 2, 0", near.mean(0, n), -costs[n - 1] - mends[n - 1]);
+        }
+        for (int v : new int[] {1, 2, 97, 98}) {
+            GateWatch x = with(3, NUMBERED, v);
+            x.seen(1, false);
+            x.seen(2, false);
+            due.is("NUMBERED loses by mending on the last DAY", x.loses(0, 2), 7000);
+            due.is("NUMBERED: 1, 2, 0", x.mean(0, 3), -40000 - 12000 + 10000 - 12000 + 60000 - 5000);
+        }
+    }
+
     private static void allIsGreatest() {
         due.sentence("term 3", "just LOOKS THINGS are looked at as is best for the DAYS that are left");
         GateWatch x = with(3, PLAN, 0);
@@ -384,6 +421,16 @@ public final class PlanBoundaryTest {
             if (n < 3) {
                 due.is("all(2, 1), LOOKS " + n, x.all(2, 1), (1 << n) - 1);
             }
+        }
+        for (int n = 1; n <= 3; n++) {
+            GateWatch last = Due.with("look 9", 8 - n);
+            Due.sort(last, "look 1");
+            for (int t = 0; t < n; t++) {
+                last.thing(1, 0);
+            }
+            last.looks(n);
+            due.is("the greatest set of all, LOOKS " + n, last.all(1, 1), 256 - (1 << 8 - n));
+            due.is("what it costs", last.all(1, 0), -1000 * n);
         }
         GateWatch y = with(4, PLAN, 0);
         y.looks(2);
@@ -692,6 +739,7 @@ public final class PlanBoundaryTest {
         bothGoneOn();
         meanIsCut();
         dayGoesOn();
+        onThatDay();
         allIsGreatest();
         allByThen();
         leastSet();

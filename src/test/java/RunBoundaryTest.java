@@ -66,7 +66,7 @@ public final class RunBoundaryTest {
     }
 
     private static void aheadOfThat() {
-        due.sentence("term 4", "the DAY brings, of each THING, well or bad by what it is ahead of that, and costs");
+        due.sentence("term 4", "the DAY brings, of each THING, well or bad (times 1000) by what it is ahead of that, and costs");
         GateWatch x = Due.with(Due.STEADY, 2);
         x.plan(PLAN, 0);
         x.seen(0, false);
@@ -215,7 +215,8 @@ public final class RunBoundaryTest {
     }
 
     private static void looksOrFewer() {
-        due.sentence("term 4", "the set of LOOKS THINGS or fewer .. with the greatest NUMBERS together; of several the least as bits");
+        due.sentence("term 4", "the set of LOOKS THINGS or fewer for which that is no more than b, with the greatest NUMBERS "
+            + "(by n; -5 counts as 201) together; of several the least as bits");
         GateWatch x = Due.with(Due.STEADY, 5);
         x.looks(3);
         due.is("all NUMBERS are 0: nobody", x.tour(200, 2), 0);
@@ -237,6 +238,10 @@ public final class RunBoundaryTest {
         fewer.looks(3);
         due.is("of fewer all", fewer.tour(200, 2), 3);
         due.is("of no THINGS", new GateWatch().tour(200, 8), 0);
+        GateWatch one = Due.with("well 6;bad 7;look 5;mend 7", 2);
+        one.seen(1, false);
+        due.is("a NUMBER of 1", one.number(1, 2), 1);
+        due.is("1 is more than nobody's 0", one.tour(200, 2), 2);
     }
 
     /** By two DAYS the NUMBERS are well and bad, less 12: 200; 201, which is none; 199. */
@@ -300,6 +305,23 @@ public final class RunBoundaryTest {
         GateWatch x = Due.with("ill 999 k<100;ill 1 k<100;heal 998 k<100;well 74;bad 60;look 0;mend 2", 2);
         x.seen(1, false);
         due.is("above 1000", x.edge(1, 3), 0);
+        // The same by 1 more, of THING 0.
+        GateWatch y = Due.with("ill 999 k<100;ill 1 k<100;heal 931 d<1;well 87;bad 131;look 1", 2);
+        y.days(3);
+        due.is("above 1000", y.edge(0, 3), 0);
+        // What all ill come to together is 1000 at most; the change is of that. Then the NUMBER is 0, with 999 it is 1.
+        String rest = " k<100;well 999;bad 999;mend 1";
+        for (int more : new int[] {1, 2, 999}) {
+            GateWatch z = Due.with("ill 999 k<100;ill " + more + rest, 2);
+            z.seen(0, false);
+            z.seen(1, false);
+            due.is("1000 less 1 is enough", z.edge(1, 2), -1);
+        }
+        GateWatch none = Due.with(Due.STEADY, 2);
+        none.seen(0, false);
+        none.seen(1, false);
+        due.is("20 more of no ill", none.edge(0, 2), 20);
+        due.is("no less of no ill", none.edge(1, 2), 0);
     }
 
     /** The same, by the NUMBERS of THINGS of other SORTS: one object for each change. */
@@ -396,7 +418,7 @@ public final class RunBoundaryTest {
     }
 
     private static void runBeyond() {
-        due.sentence("promise 21", "NO: also beyond DAY 999");
+        due.sentence("promise 21", "NO: plan, n, seed, also beyond DAY 999");
         for (int before : new int[] {0, 1, 4, 29}) {
             int n = before + 1;
             Supplier<GateWatch> late = () -> richOnDay(999 - before);

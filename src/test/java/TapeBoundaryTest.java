@@ -178,7 +178,7 @@ public final class TapeBoundaryTest {
 
     /** 1, 2 and 4 as far as d is below, alike, above 5; 10, 20 and 40 likewise by k; then what no d and k pass. */
     private static void testEdges() {
-        due.sentence("term 1", "a TEST: d or k, one of < = >, a number likewise: d DAYS since .., k its PLACE");
+        due.sentence("term 1", "a TEST: d or k, one of < = >, a number likewise: d DAYS since it was looked at last .. k its PLACE");
         GateWatch x = new GateWatch();
         Due.sort(x, "ill 1 d<5;ill 2 d=5;ill 4 d>5;ill 10 k<50;ill 20 k=50;ill 40 k>50");
         int[][] asked = {{4, 49, 11}, {5, 49, 12}, {6, 49, 14}, {4, 50, 21}, {5, 51, 42}, {6, 51, 44}, {0, 0, 11},
@@ -296,7 +296,7 @@ public final class TapeBoundaryTest {
             good += answer == 0 ? 1 : 0;
         }
         due.is("as many are SORTS", good, 2);
-        for (String word : new String[] {"i", "il", "ill", "ill ", "ill 1", "h", "hea", "w", "well", "well ", "b", "ba",
+        for (String word : new String[] {"", "i", "il", "ill", "ill ", "ill 1", "h", "hea", "w", "well", "well ", "b", "ba",
             "bad", "l", "loo", "look ", "m", "men", "mend", "ill 1 d=1&", "ill 1 d=1|!", "ill 1 d=1|!("}) {
             fault(word, word.length());
         }

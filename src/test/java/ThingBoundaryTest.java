@@ -187,6 +187,21 @@ public final class ThingBoundaryTest {
         due.is("best(0, 0, 1, 2)", x.best(0, 0, 1, 2), -30000 - 5000 - 7000);
     }
 
+    private static void costs() {
+        due.sentence("term 1", "A LOOK costs look (times 1000), mend likewise when paid");
+        int[][] asked = {{0, 0, 0, 0}, {0, 1, 0, -1000}, {1, 0, -1000, -1000}, {999, 999, -999000, -1998000}};
+        for (int[] a : asked) {
+            GateWatch x = onDay("look " + a[0] + ";mend " + a[1], 0);
+            x.plan(0, 0);
+            due.is("WELL: mend isn't paid", x.best(0, 0, 1, 2), a[2]);
+            due.is("WELL: mend isn't paid", x.run(0, 1, 0), a[2]);
+            x.seen(0, false);
+            due.is("ILL", x.best(0, 0, 1, 2), a[3]);
+            due.is("ILL", x.mean(0, 1), a[3]);
+            due.is("ILL", x.run(0, 1, 0), a[3]);
+        }
+    }
+
     // ---- term 2
 
     private static void wages() {
@@ -272,22 +287,23 @@ public final class ThingBoundaryTest {
         due.is("from 199 on", worth(100, 111).such(0, 2), 1);
         due.is("there is none greater than 200", worth(100, 112).such(0, 2), 1);
         due.is("there is no NUMBER", worth(100, 113).such(0, 2), -5);
-        // Found by trying many: LOOKED is more again at the next wage alone, and at the last one alone.
-        suchBy("ill 626 d<4;heal 669 d<3;well 70;bad 76;look 7", 2, 3);
-        suchBy("ill 939 d<3;heal 614 d=1;well 818;bad 548;look 20;mend 185", 3, 4);
+        // Found by trying many: by the cuts LOOKED is more again at the last wage alone; at the next one alone.
+        suchBy("ill 939 d<3;heal 614 d=1;well 818;bad 548;look 20;mend 185", 3, 4, 200);
+        suchBy("ill 626 d<4;heal 669 d<3;well 70;bad 76;look 7", 2, 3, 1);
+        // Up to 19 they are alike, which is so, too.
+        suchBy("ill 989 d<5;heal 176 d<2;well 183;bad 78;look 18", 1, 3, -1);
     }
 
-    private static void suchBy(String sort, int day, int n) {
+    /** The NUMBER is 0; more is the wage above it at which LOOKED is more, if there is one. */
+    private static void suchBy(String sort, int day, int n, int more) {
         GateWatch x = onDay(sort, day);
-        int number = x.number(0, n);
-        int again = 0;
-        for (int w = 0; w <= 200; w++) {
-            boolean looked = x.best(0, w, n, 2) > x.best(0, w, n, 1);
-            due.is("below " + number + " LOOKED is more", w >= number || looked ? 1 : 0, 1);
-            again += w > number && looked ? 1 : 0;
+        due.is("number(0, " + n + ")", x.number(0, n), 0);
+        for (int w = 1; w <= 200; w++) {
+            long above = x.best(0, w, n, 2) - x.best(0, w, n, 1);
+            due.is("LOOKED is more with " + w, above > 0 ? 1 : 0, w == more ? 1 : 0);
         }
-        due.is("at one wage above " + number + " LOOKED is more", again, 1);
-        due.is("such(0, " + n + ")", x.such(0, n), 0);
+        due.is("alike with 19", x.best(0, 19, n, 2) - x.best(0, 19, n, 1), 0);
+        due.is("such(0, " + n + ")", x.such(0, n), more < 0 ? 1 : 0);
     }
 
     // ---- promises 5 to 11
@@ -442,6 +458,7 @@ public final class ThingBoundaryTest {
         lookAtZero();
         bringsIsCut();
         bringsAhead();
+        costs();
         wages();
         noDays();
         greaterOne();
