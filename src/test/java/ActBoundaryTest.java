@@ -83,6 +83,11 @@ public final class ActBoundaryTest {
         refusedFull("as(12, 0)", x -> x.as(12, 0), GateWatch.NONE);
         GateWatch x = full();
         due.is("act(12, 0, 7)", x.act(12, 0, 7), 0);
+        // On DAY 999: 2997 and 99 is 0 by 8; 30969 and 1683 is 60 by 97, and 4 by 8.
+        int[] whom = {7, 7, 7, 7, 16 + 32 + 64, 7, 7};
+        for (int kind = 0; kind <= 6; kind++) {
+            due.is("whom, KIND " + kind, x.whom(kind == 6 ? 11 : kind), whom[kind]);
+        }
         due.is("bound(8), no LOOK is worth it", x.bound(8), 8 * 8 * 20000);
         due.is("all(2, 1)", x.all(2, 1), 7);
         due.is("mean(11, 3)", x.mean(11, 3), 3 * (160000 - 15000));
