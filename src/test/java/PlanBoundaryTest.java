@@ -322,6 +322,23 @@ public final class PlanBoundaryTest {
         due.is("above 0", more.mean(0, 2), 998 + 997);
     }
 
+    /** One THING brings 20000 each DAY; the other nothing, KNOWN to be WELL by 1 or all but 1 millionth. */
+    private static void hardlySure() {
+        due.sentence("term 3", "K times what comes behind WELL and (1000000 less K) times what comes behind ILL (less mending)");
+        for (boolean well : new boolean[] {true, false}) {
+            GateWatch x = Due.with(well ? "ill 999 k<100" : "heal 999 k<100", 1);
+            Due.sort(x, "well 20");
+            x.thing(1, 0);
+            x.plan(PLAN, 0);
+            x.seen(0, well);
+            x.days(2);
+            due.is("KNOWN", x.of(0, 2), well ? 1 : 999999);
+            due.is("the same comes behind WELL and ILL", x.mean(0, 2), 40000);
+            due.is("on 3 DAYS", x.mean(0, 3), 60000);
+            due.is("ALL", x.all(2, 0), 40000);
+        }
+    }
+
     private static void dayGoesOn() {
         due.sentence("term 3", "the DAY goes on in it; nothing changes by it");
         GateWatch x = told(3, 0, 1, 3, 7);
@@ -515,6 +532,12 @@ public final class PlanBoundaryTest {
         due.is("a DAY later", x.judged(0, 10), 1);
         x.seen(0, true);
         due.is("NOW", x.judged(0, 1), 0);
+        GateWatch second = Due.with("ill 100 k<100", 2);
+        second.plan(TOLD, 0);
+        second.row(0, 2);
+        due.is("THING 1 looked at, 2 DAYS", second.judged(0, 2), -5);
+        due.is("THING 1 looked at, 3 DAYS", second.judged(0, 3), 2);
+        due.is("THING 1 looked at, 10 DAYS", second.judged(0, 10), 2);
     }
 
     private static void judgedGreater() {
@@ -738,6 +761,7 @@ public final class PlanBoundaryTest {
         meanDays();
         bothGoneOn();
         meanIsCut();
+        hardlySure();
         dayGoesOn();
         onThatDay();
         allIsGreatest();
