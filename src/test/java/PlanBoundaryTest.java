@@ -388,11 +388,17 @@ public final class PlanBoundaryTest {
             due.is("NEAR: 1, 2, 0", near.mean(0, n), -costs[n - 1] - mends[n - 1]);
         }
         for (int v : new int[] {1, 2, 97, 98}) {
-            GateWatch x = with(3, NUMBERED, v);
-            x.seen(1, false);
-            x.seen(2, false);
-            due.is("NUMBERED loses by mending on the last DAY", x.loses(0, 2), 7000);
-            due.is("NUMBERED: 1, 2, 0", x.mean(0, 3), -40000 - 12000 + 10000 - 12000 + 60000 - 5000);
+            // One object for each call: neither can lean on what the other has reckoned.
+            for (int call = 0; call < 2; call++) {
+                GateWatch x = with(3, NUMBERED, v);
+                x.seen(1, false);
+                x.seen(2, false);
+                if (call == 0) {
+                    due.is("NUMBERED: 1, 2, 0", x.mean(0, 3), -40000 - 12000 + 10000 - 12000 + 60000 - 5000);
+                } else {
+                    due.is("NUMBERED loses by mending on the last DAY", x.loses(0, 2), 7000);
+                }
+            }
         }
     }
 
