@@ -242,14 +242,9 @@ public final class GateWatch {
         }
         outlook.layAll(n);
         long unseen = n * 1000L * (book.thingCount - book.looksOrAll());
-        long least = Long.MAX_VALUE;
-        for (int w = 0; w <= MOST_WAGE; w++) {
-            long sum = -w * unseen;
-            for (int t = 0; t < book.thingCount; t++) {
-                outlook.weigh(t, AS_IT_IS, w, n);
-                sum += Math.max(outlook.notLooked, outlook.looked);
-            }
-            least = Math.min(least, sum);
+        long least = outlook.sumAlone(0, n);
+        for (int w = 1; w <= MOST_WAGE; w++) {
+            least = Math.min(least, outlook.sumAlone(w, n) - w * unseen);
         }
         return least;
     }
@@ -633,7 +628,9 @@ public final class GateWatch {
                     truths = (truths >> 1) | top;
                 } else {
                     int value = (step & 1) == 0 ? d : k;
-                    boolean passes = Integer.compare(value, step / 8) == step / 2 % 4 - 1;
+                    int sign = step / 2 % 4;
+                    int told = step / 8;
+                    boolean passes = sign == 0 ? value < told : sign == 1 ? value == told : value > told;
                     truths = (truths << 1) | (passes ? 1 : 0);
                 }
             }
@@ -894,6 +891,16 @@ public final class GateWatch {
                     }
                 }
             }
+        }
+
+        /** BEST of all THINGS, each alone with the wage, together. */
+        long sumAlone(int w, int n) {
+            long sum = 0;
+            for (int t = 0; t < book.thingCount; t++) {
+                weigh(t, AS_IT_IS, w, n);
+                sum += Math.max(notLooked, looked);
+            }
+            return sum;
         }
 
         /** NUMBER from a spot on; one more than all wages if there is none. */

@@ -82,7 +82,7 @@ public final class LanguageTest {
         Matcher library = Pattern.compile("\\b(Arrays|Integer|Long|Math|System)\\.(\\w+)").matcher(bare);
         while (library.find()) {
             due.is(library.group() + " is of the library", library.group(2).matches(
-                "copyOf|copyOfRange|fill|arraycopy|max|min|abs|bitCount|floorDiv|floorMod|compare|MAX_VALUE|MIN_VALUE"
+                "copyOf|copyOfRange|fill|arraycopy|max|min|abs|bitCount|floorDiv|floorMod|compare|MIN_VALUE"
                 + "|numberOfTrailingZeros|highestOneBit") ? 1 : 0, 1);
         }
         due.is("a package line", bare.contains("package ") ? 1 : 0, 0);
